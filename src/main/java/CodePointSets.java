@@ -248,6 +248,7 @@ public final class CodePointSets {
 
         private static final int KEY_BITS = 21;
         private static final int KEY_MASK = (1 << KEY_BITS) - 1;
+        private static final long BEHIND_ALL_KEYS = 0x7fffffffffffffffL;
 
         private final int[] edges = new int[EDGE_ROOM];
         private int edgeCount;
@@ -341,8 +342,8 @@ public final class CodePointSets {
             int j = 0;
             int most = left.stringCount + right.stringCount;
             for (int step = 0; step < most && (i < left.stringCount || j < right.stringCount); step++) {
-                long a = i < left.stringCount ? left.keys[i] : Long.MAX_VALUE;
-                long b = j < right.stringCount ? right.keys[j] : Long.MAX_VALUE;
+                long a = i < left.stringCount ? left.keys[i] : BEHIND_ALL_KEYS;
+                long b = j < right.stringCount ? right.keys[j] : BEHIND_ALL_KEYS;
                 long key = a < b ? a : b;
                 if (isKept(a == key, b == key, how)) {
                     appendKey(key);

@@ -18,6 +18,7 @@ public final class PatternTest {
         depthLimit();
         wholeText();
         registers();
+        nothingStaysBehind();
         CHECK.finish();
     }
 
@@ -78,6 +79,15 @@ public final class PatternTest {
         hasEdges("[\\uaBcD\\uFfFf]", "43981 43982 65535 65536 strings 0");
         accepted("[\\x{0}]", "[\\x{0}]");
         accepted("[\\x{61}\\x{000062}]", "[ab]");
+        for (String digit : "0 1 2 3 4 5 6 7 8 9 a b c d e f A B C D E F".split(" ")) {
+            int value = Integer.parseInt("4" + digit, 16);
+            hasEdges("[\\x{4" + digit + "}]", value + " " + (value + 1) + " strings 0");
+            hasEdges("[\\u004" + digit + "]", value + " " + (value + 1) + " strings 0");
+        }
+        for (String digit : "g G / : @ ` - \u0661 \uff11".split(" ")) {
+            refused("[\\x{4" + digit + "}]");
+            refused("[\\u004" + digit + "]");
+        }
         hasEdges("[\\x{10FFff}]", "1114111 1114112 strings 0");
         hasEdges("[\\ud83d\\ude00]", "55357 55358 56832 56833 strings 0");
         for (char c = 'A'; c <= 'z'; c++) {
@@ -324,6 +334,14 @@ public final class PatternTest {
         refused("[a]\\p{any}");
         refused("\\p{any}[a]");
         refused("\\p{any}-[a]");
+        String[] tails = {
+            "^", "]", "}", "{", "&", "-", "[", "[:", "[:any", "[:x:]", "\\", "\\q", "\\u1", "\\x{", "\\x{110000}", "\\p{",
+            "\\p{x}", "\\p", " ", "a", "\\n"};
+        for (String tail : tails) {
+            refused("[a]" + tail);
+            refused("\\p{digit}" + tail);
+            refused("[:digit:]" + tail);
+        }
         String sixty = "[" + "a".repeat(58) + "]";
         accepted(sixty, "[a]");
         refused("[" + "a".repeat(59));
@@ -348,5 +366,30 @@ public final class PatternTest {
         CHECK.same("what was there goes", Check.edges(x, 1), "122 123 strings 0");
         CHECK.same("register 0 stays", Check.edges(x, 0), "97 100 strings 1");
         CHECK.same("register 2 stays", Check.edges(x, 2), "97 100 strings 1");
+    }
+
+    /** What an earlier pattern, whole or broken off, was about must not be seen in a later one. */
+    private static void nothingStaysBehind() {
+        String[] before = {
+            "[[a]]", "[[a]&", "[[[[[a", "[^a", "[^{ab}]", "[[a][b]-", "[x{ab}[y]", "[[[a]]&[[a]]]", "\\P{any}", "[a]b",
+            "[[[[[[a]]]]]]"};
+        String[] wrong = {"[&[a]]", "[[&[a]]]", "[[&[a]", "[a]]", "]", "&[a]", "-[a]]", "[[-&[a]]]", "[[{ab}-[a]]]"};
+        for (String first : before) {
+            CodePointSets x = new CodePointSets();
+            Check.apply(x, 0, first);
+            for (String pattern : wrong) {
+                CHECK.no(pattern + " behind " + first, Check.apply(x, 1, pattern));
+                Check.apply(x, 0, first);
+            }
+            CHECK.yes("[-[b]{cd}] behind " + first, Check.apply(x, 1, "[-[b]{cd}]"));
+            CHECK.same("[-[b]{cd}] behind " + first, Check.printed(x, 1), "[\\-b{cd}]");
+            Check.apply(x, 0, first);
+            CHECK.yes("[[-[c]]] behind " + first, Check.apply(x, 1, "[[-[c]]]"));
+            CHECK.same("[[-[c]]] behind " + first, Check.printed(x, 1), "[\\-c]");
+        }
+        refused("[[[a]][&[a]]]");
+        refused("[[a[b]][&[b]]]");
+        accepted("[[a[b]][-[c]]]", "[\\-a-c]");
+        accepted("[[xyz]&[-[x]]]", "[x]");
     }
 }
