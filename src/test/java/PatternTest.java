@@ -188,7 +188,7 @@ public final class PatternTest {
         accepted("[{aa}{aaa}]", "[{aa}{aaa}]");
         String[] wrong = {
             "[{}]", "[{ }]", "[{abcd}]", "[{a-c}]", "[{a&b}]", "[{^a}]", "[{[a]}]", "[{a{b}}]", "[{\\p{any}}]",
-            "[{ab]", "[{ab", "[ab}]", "{ab}", "{a}", "[{a]}", "[{[:any:]}]", "[{-}]", "[{a,b}"};
+            "[{ab]", "[{ab", "[ab}]", "{ab}", "{a}", "[{a]}", "[{[:any:]}]", "[{-}]", "[{a,b}", "[{ab{]", "[}ab}]"};
         for (String pattern : wrong) {
             refused(pattern);
         }
@@ -236,7 +236,7 @@ public final class PatternTest {
         String[] wrong = {
             "\\p{digits}", "\\p{digi}", "\\p{Alpha}", "\\p{digit1}", "\\p{di.git}", "\\p{\\x{64}igit}", "\\p{asciii}",
             "\\p{anyany}", "\\p{_}", "\\p{d\u0131git}", "\\p{d\u0131git }", "\\p{\u212aletter}", "[:an\ny:]",
-            "\\p{[any]}", "\\p{@ny}", "\\p{hexdigitdigit}"};
+            "\\p{[any]}", "\\p{@ny}", "\\p{hexdigitdigit}", "\\p{bny}", "[:tigit:]"};
         for (String pattern : wrong) {
             refused(pattern);
         }
@@ -372,7 +372,7 @@ public final class PatternTest {
     private static void nothingStaysBehind() {
         String[] before = {
             "[[a]]", "[[a]&", "[[[[[a", "[^a", "[^{ab}]", "[[a][b]-", "[x{ab}[y]", "[[[a]]&[[a]]]", "\\P{any}", "[a]b",
-            "[[[[[[a]]]]]]"};
+            "[[[[[[a]]]]]]", "[[a]-[b", "[[[a]&[b", "[[[a]-[b]q-"};
         String[] wrong = {"[&[a]]", "[[&[a]]]", "[[&[a]", "[a]]", "]", "&[a]", "-[a]]", "[[-&[a]]]", "[[{ab}-[a]]]"};
         for (String first : before) {
             CodePointSets x = new CodePointSets();

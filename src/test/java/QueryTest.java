@@ -69,6 +69,10 @@ public final class QueryTest {
         hasText(x, "abab", false);
         hasText(x, "\u0000\u0000", true);
         hasText(x, "\u0000\u0000\u0000", false);
+        Check.load(x, 0, "[{ab}]");
+        hasText(x, "xyz", false);
+        Check.load(x, 0, "[a]");
+        hasText(x, "ab", false);
         Check.write(x, "a");
         for (int r : NO_REGISTERS) {
             CHECK.no("has " + r, x.has(r));
