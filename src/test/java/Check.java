@@ -35,7 +35,7 @@ final class Check {
         }
     }
 
-    static void write(CodePointSets x, String text) {
+    static void write(Counted x, String text) {
         x.wipe();
         int[] codes = text.codePoints().toArray();
         for (int c : codes) {
@@ -45,52 +45,60 @@ final class Check {
         }
     }
 
-    static boolean apply(CodePointSets x, int r, String pattern) {
+    static boolean apply(Counted x, int r, String pattern) {
         write(x, pattern);
         return x.apply(r);
     }
 
     /** Applies a pattern that must be one. */
-    static void load(CodePointSets x, int r, String pattern) {
+    static void load(Counted x, int r, String pattern) {
         if (!apply(x, r, pattern)) {
             throw new IllegalStateException("no pattern: " + pattern);
         }
     }
 
-    static String text(CodePointSets x) {
+    static String text(Counted x) {
         StringBuilder row = new StringBuilder();
-        for (int k = 0; k < x.length(); k++) {
+        int length = x.length();
+        for (int k = 0; k < length; k++) {
             row.appendCodePoint(x.at(k));
         }
         return row.toString();
     }
 
     /** Prints the register (so the TEXT changes, if it is not refused). */
-    static String printed(CodePointSets x, int r) {
+    static String printed(Counted x, int r) {
         return x.print(r) == CodePointSets.NONE ? "refused" : text(x);
     }
 
     /** The edges, with a blank between them, and the number of strings. */
-    static String edges(CodePointSets x, int r) {
+    static String edges(Counted x, int r) {
         StringBuilder row = new StringBuilder();
-        for (int k = 0; x.edge(r, k) != CodePointSets.NONE; k++) {
-            row.append(x.edge(r, k)).append(' ');
+        int k = 0;
+        for (int edge = x.edge(r, k); edge != CodePointSets.NONE; edge = x.edge(r, k)) {
+            row.append(edge).append(' ');
+            k++;
         }
         return row.append("strings ").append(x.strings(r)).toString();
     }
 
     /** The register becomes the code points from + 2 k for k = 0 .. count - 1, none of which touch. */
-    static void loadComb(CodePointSets x, int r, int other, int from, int count) {
+    static void loadComb(Counted x, int r, int other, int from, int count) {
         load(x, r, "[]");
-        for (int k = 0; k < count; k += 25) {
+        for (int k = 0; k < count; k += 50) {
             StringBuilder pattern = new StringBuilder("[");
-            for (int i = k; i < count && i < k + 25; i++) {
+            for (int i = k; i < count && i < k + 50; i++) {
                 pattern.appendCodePoint(from + 2 * i);
             }
             load(x, other, pattern.append("]").toString());
-            if (!x.combine(r, other, 0)) {
-                throw new IllegalStateException("refused at " + k);
-            }
+            join(x, r, other);
+        }
+    }
+
+    /** What is in the second register comes to the first one, which must have room for it. */
+    static void join(Counted x, int r, int s) {
+        if (!x.combine(r, s, 0)) {
+            throw new IllegalStateException("refused: combine " + r + " and " + s);
         }
     }
 }

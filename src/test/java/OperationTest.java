@@ -18,7 +18,7 @@ public final class OperationTest {
     }
 
     private static void combined(String left, String right, int how, String want) {
-        CodePointSets x = new CodePointSets();
+        Counted x = new Counted();
         Check.load(x, 0, left);
         Check.load(x, 2, right);
         String before = Check.edges(x, 2);
@@ -55,7 +55,7 @@ public final class OperationTest {
     private static void combineWithItself() {
         String[] want = {"[a-c{de}]", "[a-c{de}]", "[]", "[]"};
         for (int how = 0; how < 4; how++) {
-            CodePointSets x = new CodePointSets();
+            Counted x = new Counted();
             Check.load(x, 1, "[a-c{de}]");
             CHECK.yes("combine with itself " + how, x.combine(1, 1, how));
             CHECK.same("outcome " + how, Check.printed(x, 1), want[how]);
@@ -63,7 +63,7 @@ public final class OperationTest {
     }
 
     private static void combineRefuses() {
-        CodePointSets x = new CodePointSets();
+        Counted x = new Counted();
         Check.load(x, 0, "[a-c]");
         Check.load(x, 1, "[b]");
         int[] wrong = {-1, 3, Integer.MIN_VALUE, Integer.MAX_VALUE};
@@ -79,7 +79,7 @@ public final class OperationTest {
     }
 
     private static void combineRangeLimit() {
-        CodePointSets x = new CodePointSets();
+        Counted x = new Counted();
         Check.loadComb(x, 0, 1, 1000, 100);
         Check.load(x, 1, "[a]");
         CHECK.no("a hundred and one ranges", x.combine(0, 1, 0));
@@ -99,7 +99,7 @@ public final class OperationTest {
     }
 
     private static void twoFullRegisters() {
-        CodePointSets x = new CodePointSets();
+        Counted x = new Counted();
         Check.loadComb(x, 0, 2, 1000, 100);
         Check.loadComb(x, 1, 2, 5000, 100);
         CHECK.no("two hundred ranges, how 0", x.combine(0, 1, 0));
@@ -114,7 +114,7 @@ public final class OperationTest {
     }
 
     private static void combineStringLimit() {
-        CodePointSets x = new CodePointSets();
+        Counted x = new Counted();
         String eight = "{aa}{ab}{ac}{ad}{ba}{bb}{bc}{bd}";
         Check.load(x, 0, "[" + eight + "]");
         Check.load(x, 1, "[c{ca}{cb}{cc}{cd}{da}{db}{dc}{dd}]");
@@ -130,7 +130,7 @@ public final class OperationTest {
     }
 
     private static void turned(String pattern, String want) {
-        CodePointSets x = new CodePointSets();
+        Counted x = new Counted();
         Check.load(x, 1, pattern);
         Check.write(x, "t");
         CHECK.yes("turn of " + pattern, x.turn(1));
@@ -153,7 +153,7 @@ public final class OperationTest {
     }
 
     private static void turnRefuses() {
-        CodePointSets x = new CodePointSets();
+        Counted x = new Counted();
         Check.load(x, 0, "[a{bc}]");
         CHECK.no("turn with a string", x.turn(0));
         CHECK.same("stays", Check.printed(x, 0), "[a{bc}]");
@@ -178,7 +178,7 @@ public final class OperationTest {
     }
 
     private static void closed(String pattern, int came, String want) {
-        CodePointSets x = new CodePointSets();
+        Counted x = new Counted();
         Check.load(x, 2, pattern);
         Check.write(x, "t");
         CHECK.same("close of " + pattern, x.close(2), came);
@@ -218,7 +218,7 @@ public final class OperationTest {
         for (int c = 0; c < 300; c++) {
             int other = partner(c);
             int third = thirdOf(c);
-            CodePointSets x = new CodePointSets();
+            Counted x = new Counted();
             Check.load(x, 0, "[\\x{" + Integer.toHexString(c) + "}]");
             CHECK.same("close of " + c, x.close(0), (other < 0 ? 0 : 1) + (third < 0 ? 0 : 1));
             CHECK.yes("itself", x.contains(0, c));
@@ -251,7 +251,7 @@ public final class OperationTest {
     }
 
     private static void closeRefuses() {
-        CodePointSets x = new CodePointSets();
+        Counted x = new Counted();
         int[] wrong = {-1, 3, Integer.MIN_VALUE, Integer.MAX_VALUE};
         for (int r : wrong) {
             CHECK.same("close " + r, x.close(r), -1);
@@ -272,7 +272,7 @@ public final class OperationTest {
 
     /** What comes may touch what is there: only the ranges at the end count. */
     private static void fillsGaps() {
-        CodePointSets x = new CodePointSets();
+        Counted x = new Counted();
         Check.loadComb(x, 0, 1, 1000, 96);
         Check.load(x, 1, "[a-zA-JL-RT-Z]");
         CHECK.yes("join to a hundred", x.combine(0, 1, 0));
@@ -283,7 +283,7 @@ public final class OperationTest {
         CHECK.yes("join to a hundred", x.combine(2, 1, 0));
         CHECK.same("close that fills one gap", x.close(2), -1);
         CHECK.no("stays", x.contains(2, 75));
-        CodePointSets y = new CodePointSets();
+        Counted y = new Counted();
         Check.load(y, 0, "\\p{upper}");
         CHECK.same("close of upper", y.close(0), 59);
         CHECK.same("edges of upper closed", Check.edges(y, 0),

@@ -23,7 +23,7 @@ public final class PatternTest {
     }
 
     private static void accepted(String pattern, String want) {
-        CodePointSets x = new CodePointSets();
+        Counted x = new Counted();
         CHECK.yes("apply " + pattern, Check.apply(x, 1, pattern));
         CHECK.same("text behind " + pattern, Check.text(x), pattern);
         CHECK.same("print of " + pattern, Check.printed(x, 1), want);
@@ -31,13 +31,13 @@ public final class PatternTest {
     }
 
     private static void hasEdges(String pattern, String want) {
-        CodePointSets x = new CodePointSets();
+        Counted x = new Counted();
         CHECK.yes("apply " + pattern, Check.apply(x, 2, pattern));
         CHECK.same("edges of " + pattern, Check.edges(x, 2), want);
     }
 
     private static void refused(String pattern) {
-        CodePointSets x = new CodePointSets();
+        Counted x = new Counted();
         Check.load(x, 0, "[q-s{uv}]");
         CHECK.no("apply " + pattern, Check.apply(x, 0, pattern));
         CHECK.same("text behind " + pattern, Check.text(x), pattern);
@@ -335,8 +335,8 @@ public final class PatternTest {
         refused("\\p{any}[a]");
         refused("\\p{any}-[a]");
         String[] tails = {
-            "^", "]", "}", "{", "&", "-", "[", "[:", "[:any", "[:x:]", "\\", "\\q", "\\u1", "\\x{", "\\x{110000}", "\\p{",
-            "\\p{x}", "\\p", " ", "a", "\\n"};
+            "^", "]", "}", "{", "&", "-", "[", "[:", "[:any", "[:x:]", "\\", "\\q", "\\u1", "\\x{", "\\x{110000}",
+            "\\p{", "\\p{x}", "\\p", " ", "a", "\\n"};
         for (String tail : tails) {
             refused("[a]" + tail);
             refused("\\p{digit}" + tail);
@@ -351,7 +351,7 @@ public final class PatternTest {
     }
 
     private static void registers() {
-        CodePointSets x = new CodePointSets();
+        Counted x = new Counted();
         Check.write(x, "[a-c{xy}]");
         int[] wrong = {-1, 3, Integer.MIN_VALUE, Integer.MAX_VALUE};
         for (int r : wrong) {
@@ -375,7 +375,7 @@ public final class PatternTest {
             "[[[[[[a]]]]]]", "[[a]-[b", "[[[a]&[b", "[[[a]-[b]q-"};
         String[] wrong = {"[&[a]]", "[[&[a]]]", "[[&[a]", "[a]]", "]", "&[a]", "-[a]]", "[[-&[a]]]", "[[{ab}-[a]]]"};
         for (String first : before) {
-            CodePointSets x = new CodePointSets();
+            Counted x = new Counted();
             Check.apply(x, 0, first);
             for (String pattern : wrong) {
                 CHECK.no(pattern + " behind " + first, Check.apply(x, 1, pattern));

@@ -14,7 +14,7 @@ public final class PrintTest {
     }
 
     private static void prints(String pattern, String want) {
-        CodePointSets x = new CodePointSets();
+        Counted x = new Counted();
         Check.load(x, 2, pattern);
         CHECK.same("print of " + pattern, x.print(2), want.length());
         CHECK.same("length", x.length(), want.length());
@@ -39,17 +39,14 @@ public final class PrintTest {
     }
 
     private static void codePoints() {
-        CodePointSets x = new CodePointSets();
         for (int c = 0; c < 300; c++) {
-            if (c % 40 == 0) {
-                x = new CodePointSets();
-            }
+            Counted x = new Counted();
             Check.load(x, 0, "[\\x{" + Integer.toHexString(c) + "}]");
             CHECK.same("print of " + c, Check.printed(x, 0), "[" + form(c) + "]");
         }
         int[] others = {0xfff, 0x1000, 0xffff, 0x10000, 0xfffff, 0x100000, 0x10ffff, 0xabcde};
         for (int c : others) {
-            CodePointSets y = new CodePointSets();
+            Counted y = new Counted();
             Check.load(y, 0, "[\\x{" + Integer.toHexString(c) + "}]");
             CHECK.same("print of " + c, Check.printed(y, 0), "[" + form(c) + "]");
         }
@@ -75,7 +72,7 @@ public final class PrintTest {
     }
 
     private static void lengthLimit() {
-        CodePointSets x = new CodePointSets();
+        Counted x = new Counted();
         // Five code points of ten signs, and eight of one: sixty with the brackets.
         Check.load(x, 0, "[\\x{100001}\\x{100003}\\x{100005}\\x{100007}\\x{100009}]");
         Check.load(x, 1, "[acegikmo]");
@@ -95,7 +92,7 @@ public final class PrintTest {
     }
 
     private static void stringsAtTheLimit() {
-        CodePointSets x = new CodePointSets();
+        Counted x = new Counted();
         Check.load(x, 0, "[{\\x{1000}\\x{1000}\\x{1000}}{\\x{1000}\\x{1000}\\x{1001}}acdfg]");
         CHECK.same("print of strings", Check.printed(x, 0),
             "[acdfg{\\x{1000}\\x{1000}\\x{1000}}{\\x{1000}\\x{1000}\\x{1001}}]");
@@ -113,7 +110,7 @@ public final class PrintTest {
     }
 
     private static void wrongRegisters() {
-        CodePointSets x = new CodePointSets();
+        Counted x = new Counted();
         Check.write(x, "text");
         int[] wrong = {-1, 3, Integer.MIN_VALUE, Integer.MAX_VALUE};
         for (int r : wrong) {
@@ -123,7 +120,7 @@ public final class PrintTest {
     }
 
     private static void printsAgain() {
-        CodePointSets x = new CodePointSets();
+        Counted x = new Counted();
         Check.load(x, 1, "[a-z{ab}]");
         Check.write(x, "something longer than what comes");
         CHECK.same("print over a longer text", x.print(1), 9);

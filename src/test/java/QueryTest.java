@@ -18,7 +18,7 @@ public final class QueryTest {
     }
 
     private static void containsCodePoints() {
-        CodePointSets x = new CodePointSets();
+        Counted x = new Counted();
         Check.load(x, 1, "[\\x{0}b-d\\x{10ffff}{xy}]");
         int[] in = {0, 98, 99, 100, 1114111};
         for (int c : in) {
@@ -37,7 +37,7 @@ public final class QueryTest {
     }
 
     private static void containsInManyRanges() {
-        CodePointSets x = new CodePointSets();
+        Counted x = new Counted();
         Check.loadComb(x, 0, 1, 1000, 100);
         for (int c = 998; c < 1202; c++) {
             boolean due = c >= 1000 && c < 1200 && c % 2 == 0;
@@ -45,14 +45,14 @@ public final class QueryTest {
         }
     }
 
-    private static void hasText(CodePointSets x, String text, boolean due) {
+    private static void hasText(Counted x, String text, boolean due) {
         Check.write(x, text);
         CHECK.same("has " + text, x.has(0) ? 1 : 0, due ? 1 : 0);
         CHECK.same("text stays", Check.text(x), text);
     }
 
     private static void hasTheText() {
-        CodePointSets x = new CodePointSets();
+        Counted x = new Counted();
         Check.load(x, 0, "[a-c{ab}{xyz}{\\x{0}\\x{0}}]");
         hasText(x, "", false);
         hasText(x, "a", true);
@@ -81,7 +81,7 @@ public final class QueryTest {
     }
 
     private static void included(String whole, String part, boolean due) {
-        CodePointSets x = new CodePointSets();
+        Counted x = new Counted();
         Check.load(x, 2, whole);
         Check.load(x, 0, part);
         CHECK.same(whole + " includes " + part, x.includes(2, 0) ? 1 : 0, due ? 1 : 0);
@@ -108,7 +108,7 @@ public final class QueryTest {
     }
 
     private static void countsMembers() {
-        CodePointSets x = new CodePointSets();
+        Counted x = new Counted();
         Check.load(x, 0, "[a-ez{ab}{abc}{ab}]");
         CHECK.same("size", x.size(0), 6);
         CHECK.same("strings", x.strings(0), 2);
@@ -120,7 +120,7 @@ public final class QueryTest {
     }
 
     private static void tellsEdges() {
-        CodePointSets x = new CodePointSets();
+        Counted x = new Counted();
         Check.load(x, 1, "[a-cx\\x{10ffff}{pq}]");
         int[] want = {97, 100, 120, 121, 1114111, 1114112, -1};
         for (int k = 0; k < want.length; k++) {
@@ -135,7 +135,7 @@ public final class QueryTest {
     }
 
     private static void tellsNth() {
-        CodePointSets x = new CodePointSets();
+        Counted x = new Counted();
         Check.load(x, 2, "[xa-c\\x{10ffff}{pq}]");
         int[] want = {97, 98, 99, 120, 1114111, -1};
         for (int i = 0; i < want.length; i++) {
@@ -153,7 +153,7 @@ public final class QueryTest {
     }
 
     private static void noRegister() {
-        CodePointSets x = new CodePointSets();
+        Counted x = new Counted();
         for (int r = 0; r < 3; r++) {
             Check.load(x, r, "[^]");
         }
@@ -170,7 +170,7 @@ public final class QueryTest {
     }
 
     private static void changesNothing() {
-        CodePointSets x = new CodePointSets();
+        Counted x = new Counted();
         Check.load(x, 0, "[a-c{ab}]");
         Check.load(x, 1, "[b]");
         Check.write(x, "ab");

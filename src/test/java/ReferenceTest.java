@@ -3,14 +3,14 @@ import java.util.Random;
 /** Runs of calls on the class and on the plain model, with the same answers due; the same runs each time. */
 public final class ReferenceTest {
 
-    private static final int CALLS = 512;
+    // No step makes more calls than this.
+    private static final int MOST_OF_A_STEP = 180;
 
     private final Check check = new Check();
     private final Random random;
     private final PatternMaker maker;
-    private CodePointSets x;
+    private Counted x;
     private PlainModel model;
-    private int calls;
     private int patterns;
     private int accepted;
 
@@ -20,7 +20,7 @@ public final class ReferenceTest {
     }
 
     public static void main(String[] args) {
-        int runs = args.length > 0 ? Integer.parseInt(args[0]) : 400;
+        int runs = args.length > 0 ? Integer.parseInt(args[0]) : 1200;
         long seed = args.length > 1 ? Long.parseLong(args[1]) : 20261115L;
         ReferenceTest test = new ReferenceTest(seed);
         for (int run = 0; run < runs; run++) {
@@ -33,17 +33,17 @@ public final class ReferenceTest {
     }
 
     private void run() {
-        x = new CodePointSets();
+        x = new Counted();
         model = new PlainModel();
-        calls = 0;
         boolean many = random.nextInt(4) == 0;
-        while (calls < CALLS - 130) {
+        while (x.callsLeft() >= MOST_OF_A_STEP) {
             if (many && random.nextBoolean()) {
                 joinScattered();
             } else {
                 step();
             }
         }
+        spendTheRest(register());
     }
 
     private void step() {
@@ -81,11 +81,9 @@ public final class ReferenceTest {
     }
 
     private void write(String text) {
-        calls++;
         x.wipe();
         model.text.clear();
         text.codePoints().forEach(c -> {
-            calls++;
             check.same("type", x.type(c) ? 1 : 0, model.type(c) ? 1 : 0);
         });
     }
@@ -95,7 +93,6 @@ public final class ReferenceTest {
         write(text);
         int r = register();
         boolean due = model.apply(r);
-        calls++;
         patterns++;
         accepted += due ? 1 : 0;
         check.same("apply " + text, x.apply(r) ? 1 : 0, due ? 1 : 0);
@@ -109,21 +106,18 @@ public final class ReferenceTest {
             row.appendCodePoint(random.nextInt(3) == 0 ? 192 + random.nextInt(64) : 300 + random.nextInt(400));
         }
         write(row.append(']').toString());
-        calls++;
         check.same("apply " + row, x.apply(2) ? 1 : 0, model.apply(2) ? 1 : 0);
         combine(random.nextInt(2), 2, random.nextInt(3) == 0 ? 3 : 0);
         turnOrClose();
     }
 
     private void combine(int r, int s, int how) {
-        calls++;
         check.same("combine " + how, x.combine(r, s, how) ? 1 : 0, model.combine(r, s, how) ? 1 : 0);
         state(r);
     }
 
     private void turnOrClose() {
         int r = register();
-        calls++;
         if (random.nextBoolean()) {
             check.same("turn", x.turn(r) ? 1 : 0, model.turn(r) ? 1 : 0);
         } else {
@@ -133,38 +127,49 @@ public final class ReferenceTest {
     }
 
     private void print(int r) {
-        calls++;
         check.same("print", x.print(r), model.print(r));
         text();
     }
 
     private void text() {
-        calls++;
-        check.same("length", x.length(), model.text.size());
-        for (int k = -1; k <= model.text.size(); k++) {
-            // Not counted, as it changes nothing; the limit is for the sake of the room alone.
-            check.same("at", x.at(k), model.at(k));
+        int length = model.text.size();
+        check.same("length", x.length(), length);
+        boolean whole = random.nextInt(3) == 0;
+        for (int k = -1; k <= length; k++) {
+            if (whole || k < 0 || k >= length - 1 || random.nextInt(10) == 0) {
+                check.same("at", x.at(k), model.at(k));
+            }
         }
     }
 
-    /** All edges and the number of strings; the strings themselves where the register can be printed. */
+    /** Some edges and the number of strings; the strings themselves where the register can be printed. */
     private void state(int r) {
-        calls += 3;
         check.same("size", x.size(r), model.size(r));
         check.same("strings", x.strings(r), model.strings(r));
-        int edge = 0;
-        for (int k = 0; edge >= 0 && k < 210; k++) {
-            edge = model.edge(r, k);
-            check.same("edge", x.edge(r, k), edge);
+        int count = 2 * model.registers[r].ranges();
+        int[] places = {-1, 0, random.nextInt(200), random.nextInt(count + 1), count - 1, count};
+        for (int k : places) {
+            check.same("edge " + k, x.edge(r, k), model.edge(r, k));
         }
         if (model.strings(r) > 0 && random.nextInt(3) == 0) {
             print(r);
         }
     }
 
+    /** What is left of the calls that an object has is spent on all that one register answers. */
+    private void spendTheRest(int r) {
+        state(r);
+        for (int k = 0; k <= 2 * model.registers[r].ranges() && x.callsLeft() > 0; k++) {
+            check.same("edge " + k, x.edge(r, k), model.edge(r, k));
+        }
+        while (x.callsLeft() > 0) {
+            int c = random.nextInt(1200);
+            check.same("contains " + c, x.contains(r, c) ? 1 : 0, model.contains(r, c) ? 1 : 0);
+        }
+    }
+
     private void ask(int r) {
         int s = register();
-        calls += 4;
         check.same("includes", x.includes(r, s) ? 1 : 0, model.includes(r, s) ? 1 : 0);
         int[] near = {0, 1114111, 97, 383, random.nextInt(700), random.nextInt(1114112)};
         for (int c : near) {
@@ -185,9 +190,9 @@ public final class ReferenceTest {
         }
         write(row.toString());
         for (int r = 0; r < 3; r++) {
-            calls += 3;
             check.same("has " + row, x.has(r) ? 1 : 0, model.has(r) ? 1 : 0);
-            for (int from = -1; from <= length + 1; from++) {
+            for (int k = 0; k < 8; k++) {
+                int from = k == 0 ? 0 : random.nextInt(length + 3) - 1;
                 check.same("span in " + row, x.span(r, from, true), model.span(r, from, true));
                 check.same("span out " + row, x.span(r, from, false), model.span(r, from, false));
             }
@@ -202,7 +207,6 @@ public final class ReferenceTest {
     private void wrongArguments() {
         int r = wrongNumber();
         int s = register();
-        calls += 20;
         check.no("apply", x.apply(r));
         check.same("print", x.print(r), -1);
         check.no("combine", x.combine(r, s, 0) || x.combine(s, r, 0));

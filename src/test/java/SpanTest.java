@@ -13,7 +13,7 @@ public final class SpanTest {
     }
 
     private static void spans(String pattern, String text, int from, int in, int out) {
-        CodePointSets x = new CodePointSets();
+        Counted x = new Counted();
         Check.load(x, 1, pattern);
         Check.write(x, text);
         String what = pattern + " in " + text + " from " + from;
@@ -76,7 +76,7 @@ public final class SpanTest {
     }
 
     private static void refuses() {
-        CodePointSets x = new CodePointSets();
+        Counted x = new Counted();
         Check.load(x, 0, "[a]");
         Check.write(x, "aaa");
         int[] noRegisters = {-1, 3, Integer.MIN_VALUE, Integer.MAX_VALUE};

@@ -15,7 +15,7 @@ public final class TextTest {
     }
 
     private static void newObjectIsEmpty() {
-        CodePointSets x = new CodePointSets();
+        Counted x = new Counted();
         CHECK.same("new length", x.length(), 0);
         CHECK.same("new at(0)", x.at(0), -1);
         for (int r = 0; r < 3; r++) {
@@ -28,7 +28,7 @@ public final class TextTest {
     }
 
     private static void typeAppends() {
-        CodePointSets x = new CodePointSets();
+        Counted x = new Counted();
         int[] codes = {97, 0, 1114111, 55296, 32, 97};
         for (int k = 0; k < codes.length; k++) {
             CHECK.yes("type " + codes[k], x.type(codes[k]));
@@ -40,7 +40,7 @@ public final class TextTest {
     }
 
     private static void typeRefusesWhatIsNoCodePoint() {
-        CodePointSets x = new CodePointSets();
+        Counted x = new Counted();
         x.type(98);
         int[] wrong = {-1, 1114112, Integer.MIN_VALUE, Integer.MAX_VALUE};
         for (int c : wrong) {
@@ -51,7 +51,7 @@ public final class TextTest {
     }
 
     private static void typeRefusesWhenFull() {
-        CodePointSets x = new CodePointSets();
+        Counted x = new Counted();
         for (int k = 0; k < 60; k++) {
             CHECK.yes("type into " + k, x.type(1000 + k));
         }
@@ -65,7 +65,7 @@ public final class TextTest {
     }
 
     private static void wipeEmptiesTheTextAlone() {
-        CodePointSets x = new CodePointSets();
+        Counted x = new Counted();
         Check.load(x, 1, "[abc]");
         x.wipe();
         CHECK.same("wiped length", x.length(), 0);
@@ -76,7 +76,7 @@ public final class TextTest {
     }
 
     private static void atAnswersNoneOutside() {
-        CodePointSets x = new CodePointSets();
+        Counted x = new Counted();
         Check.write(x, "xyz");
         CHECK.same("at 2", x.at(2), 'z');
         int[] outside = {3, 59, 60, 61, -1, Integer.MIN_VALUE, Integer.MAX_VALUE};
@@ -86,8 +86,8 @@ public final class TextTest {
     }
 
     private static void objectsAreApart() {
-        CodePointSets x = new CodePointSets();
-        CodePointSets y = new CodePointSets();
+        Counted x = new Counted();
+        Counted y = new Counted();
         Check.load(x, 0, "[\\p{letter}{ab}]");
         CHECK.same("other length", y.length(), 0);
         CHECK.same("other size", y.size(0), 0);
