@@ -50,6 +50,9 @@ public final class BoundaryBracketTest {
             }
             PATTERNS.none(pattern + "[", pattern + "\\", pattern + "{", pattern + "-[a]", pattern + "&[a]");
             PATTERNS.none("^" + pattern, "-" + pattern, "\u0000" + pattern, pattern + "\u0000");
+            for (String broken : new String[] {"[:", "[:x:]", "\\q", "\\u1", "\\x{", "\\x{110000}", "\\p{x}", "\\P"}) {
+                PATTERNS.none(pattern + broken, broken + pattern);
+            }
         }
     }
 
@@ -191,6 +194,7 @@ public final class BoundaryBracketTest {
         PATTERNS.none("[&[a]]", "[^&[a]]", "[a&[a]]", "[{a}&[a]]", "[{ab}&[a]]", "[a-c&[b]]", "[-&[a]]", "[ &[a]]");
         PATTERNS.none("[[a]b&[b]]", "[[a]b-[b]]", "[[a]b-c&[b]]", "[[a]{b}&[b]]", "[[a]{b}-[b]]", "[[a]{bc}-[b]]");
         PATTERNS.none("[[a]&[a]b&[b]]", "[[a]-[a]b-[b]]", "[[][&[a]]]", "[[a][&[a]]]", "[\\p{any}a&[a]]");
+        PATTERNS.none("[[[a]][&[a]]]", "[[a[b]][&[b]]]", "[[[a]-[b]][&[a]]]", "[[[a]][{a}&[a]]]");
     }
 
     private static void signBeforeSet() {

@@ -271,6 +271,9 @@ public final class BoundaryCharTest {
         PATTERNS.none("\\p{}", "\\p{ }", "\\p{_}", "\\p{-}", "\\p{- _}", "\\P{}", "[::]", "[:^:]", "[: :]", "[:^ -_:]");
         PATTERNS.none("\\p{a}", "\\p{an}", "\\p{anyy}", "\\p{nay}", "\\p{ny}", "\\p{asci}", "\\p{digits}", "\\p{hex}",
             "\\p{uppercase}", "\\p{low}", "\\p{letters}", "\\p{greece}", "\\p{spaces}", "\\p{surrogates}");
+        // Another letter at one place, from the first to the last.
+        PATTERNS.none("\\p{xigit}", "\\p{dxgit}", "\\p{dixit}", "\\p{digxt}", "\\p{digix}", "[:bny:]", "[:amy:]",
+            "[:anx:]", "\\p{tower}", "\\p{latter}", "\\p{better}", "\\p{spare}");
         PATTERNS.none("\\p{digitdigit}", "\\p{anyany}", "\\p{digitany}", "[:xdigit:]", "[:alpha:]", "\\p{not a name}");
         PATTERNS.none("\\p{" + "a".repeat(56) + "}", "[:" + "z".repeat(56) + ":]");
     }

@@ -120,7 +120,8 @@ public final class RefusalTest {
     private static void noPattern() {
         String[] texts = {
             "", "[", "[a", "[a]b", "[b-a]", "[^{ab}]", "[[[[[[a]]]]]]", "[{abcd}]", "[:x:]", "[a&[b]]", "[\\q]",
-            "[" + EIGHT + "{ca}]", "[a-c[d]&[d]{xy}z", "[[a]-[b]&[c]{xy}^]"};
+            "[" + EIGHT + "{ca}]", "[a-c[d]&[d]{xy}z", "[[a]-[b]&[c]{xy}^]", "[[a]&", "[[a]-[b",
+            "[[[[[a]&[b", "[^a", "[^", "[[^{ab}]"};
         for (String text : texts) {
             Scene scene = new Scene(CHECK, "no pattern: " + text, x -> {
                 Check.loadComb(x, 0, 1, 1000, 100);

@@ -89,9 +89,10 @@ final class Scene {
     private static String goOn(Counted x) {
         StringBuilder row = new StringBuilder();
         row.append(x.span(1, 0, true)).append(' ').append(x.has(0)).append(' ').append(x.includes(0, 1)).append(' ');
-        row.append(x.apply(0)).append(' ').append(x.close(1)).append(' ').append(x.combine(0, 1, 3)).append(' ');
-        row.append(x.print(0)).append(' ').append(x.type('a')).append(' ').append(x.length()).append(' ');
-        row.append(x.turn(2)).append(' ').append(x.combine(1, 2, 1)).append(' ').append(x.apply(2)).append(' ');
+        row.append(x.print(2)).append(' ').append(x.apply(0)).append(' ').append(x.includes(0, 2)).append(' ');
+        row.append(x.close(1)).append(' ').append(x.combine(0, 1, 3)).append(' ').append(x.edge(0, 0)).append(' ');
+        row.append(x.print(1)).append(' ').append(x.apply(2)).append(' ').append(x.turn(2)).append(' ');
+        row.append(x.type('a')).append(' ').append(x.apply(1)).append(' ').append(x.combine(1, 2, 1)).append(' ');
         for (int r = 0; r < REGISTERS; r++) {
             row.append(x.size(r)).append(' ').append(x.strings(r)).append(' ').append(x.edge(r, 1)).append(' ');
             row.append(x.nth(r, 2)).append(' ').append(x.contains(r, 'a')).append(' ').append(x.print(r)).append(' ');
