@@ -177,6 +177,7 @@ public final class BoundaryCharTest {
 
     private static void stringSigns() {
         PATTERNS.none("[{cd]", "[{cd", "[{c", "[{", "[cd}]", "[}]", "[{]", "[{cd]}", "[{cd}}]", "[{{cd}]", "[{{cd}}]");
+        PATTERNS.none("[}cd}]", "[{cd{]", "[}cd{]", "[{c{]", "[}c}]", "[}cd]");
         PATTERNS.none("[{c-d}]", "[{[c]d}]", "[{\\p{any}}]", "[{[:any:]}]", "[{c&d}]", "[{^c}]");
         PATTERNS.value("[{\\n\\t}]", "{\\x{a}\\x{9}}");
         PATTERNS.value("[{\\u0041\\x{42}C}]", "{ABC}");

@@ -14,6 +14,7 @@ public final class BoundaryQueryTest {
         hasTheEmptyText();
         hasACodePoint();
         hasAString();
+        hasNoStringThatIsGone();
         hasALongerText();
         hasNoSuchRegister();
         includesNothingAndAll();
@@ -156,6 +157,29 @@ public final class BoundaryQueryTest {
         for (String string : EIGHT.substring(1, EIGHT.length() - 1).split("\\}\\{")) {
             had("[" + EIGHT + "]", string, true);
             had("[" + EIGHT + "]", string + "a", false);
+        }
+    }
+
+    /** Nothing of what was in the register before is seen. */
+    private static void hasNoStringThatIsGone() {
+        Scene loaded = new Scene(CHECK, "two strings, then one", x -> {
+            Check.load(x, 0, "[{ab}{xyz}]");
+            Check.load(x, 0, "[{ab}]");
+            Check.write(x, "xyz");
+        });
+        loaded.refuses("has", x -> x.has(0));
+        loaded.answers("span in", 0, x -> x.span(0, 0, true));
+        loaded.answers("span out", 3, x -> x.span(0, 0, false));
+        Scene cut = new Scene(CHECK, "two strings, one taken out", x -> {
+            Check.load(x, 0, "[{ab}{xyz}]");
+            Check.load(x, 1, "[{xyz}]");
+            x.combine(0, 1, 2);
+            x.combine(1, 1, 2);
+            Check.write(x, "xyz");
+        });
+        for (int r = 0; r < 3; r++) {
+            int register = r;
+            cut.refuses("has " + r, x -> x.has(register));
         }
     }
 
@@ -424,6 +448,14 @@ public final class BoundaryQueryTest {
             scene.answers("nth " + i, -1, x -> x.nth(0, i));
             scene.answers("nth " + i + " of nothing", -1, x -> x.nth(2, i));
         }
+        Scene smaller = new Scene(CHECK, "four ranges, then one", x -> {
+            Check.load(x, 0, "[acegx-z]");
+            Check.load(x, 0, "[b]");
+        });
+        smaller.answers("nth 0", 98, x -> x.nth(0, 0));
+        smaller.answers("nth 1", -1, x -> x.nth(0, 1));
+        smaller.answers("nth 2", -1, x -> x.nth(0, 2));
+        smaller.answers("size", 1, x -> x.size(0));
     }
 
     private static void nthNoSuchRegister() {
